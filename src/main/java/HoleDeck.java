@@ -291,8 +291,8 @@ public final class HoleDeck {
         if (why != 0) {
             return refuse(why);
         }
-        planner.takeKey(trays[tray].numbers, many);
-        return answer(planner.inOrder(house, house.deck) ? 1 : 0);
+        planner.takeKey(house, trays[tray].numbers, many);
+        return answer(planner.inOrder(house.deck, house.cards) ? 1 : 0);
     }
 
     public int plan(int tray, int many) {
@@ -300,7 +300,7 @@ public final class HoleDeck {
         if (why != 0) {
             return refuse(why);
         }
-        planner.takeKey(trays[tray].numbers, many);
+        planner.takeKey(house, trays[tray].numbers, many);
         if (!planner.search(house, machine)) {
             return refuse(NONE_SUCH);
         }
@@ -1115,10 +1115,6 @@ public final class HoleDeck {
             return isWord("code") || isWord("year") || isWord("mean") || isWord("holes") || isWord("join");
         }
 
-        private boolean isName() {
-            return kind == WORD && end - start <= NAME_MOST && !isKeyword();
-        }
-
         /** Eight letters of five bits each fit into a long, so names are compared as numbers. */
         private long nameHere() {
             long name = 0;
@@ -1145,17 +1141,19 @@ public final class HoleDeck {
             return false;
         }
 
-        private boolean tellMisplaced() {
-            return tell(kind == NO_TOKEN ? 1 : 2);
+        /** The fault of a token where it is none that can stand there. */
+        private int misplaced() {
+            return kind == NO_TOKEN ? 1 : 2;
         }
 
         private boolean nameStands() {
-            return isName() || tellMisplaced();
+            boolean stands = kind == WORD && end - start <= NAME_MOST && !isKeyword();
+            return stands || tell(misplaced());
         }
 
         private boolean numberStands(int least, int most) {
             if (kind != NUMBER) {
-                return tellMisplaced();
+                return tell(misplaced());
             }
             int number = numberHere();
             return number >= least && number <= most || tell(4);
@@ -1163,7 +1161,7 @@ public final class HoleDeck {
 
         private boolean takeWord(String word) {
             if (!isWord(word)) {
-                return tellMisplaced();
+                return tell(misplaced());
             }
             advance();
             return true;
@@ -1171,7 +1169,7 @@ public final class HoleDeck {
 
         private boolean takeSign() {
             if (kind != SIGN) {
-                return tellMisplaced();
+                return tell(misplaced());
             }
             advance();
             return true;
@@ -1192,22 +1190,17 @@ public final class HoleDeck {
             joins = 0;
             boolean sound = true;
             for (int part = 0; part < TAPE_MOST && sound && reader.kind != Reader.AT_END; part++) {
-                sound = readPart();
+                if (reader.isWord("code")) {
+                    sound = readCode();
+                } else if (reader.isWord("mean")) {
+                    sound = readMean();
+                } else if (reader.isWord("join")) {
+                    sound = readJoin();
+                } else {
+                    sound = reader.tell(reader.misplaced());
+                }
             }
             return sound;
-        }
-
-        private boolean readPart() {
-            if (reader.isWord("code")) {
-                return readCode();
-            }
-            if (reader.isWord("mean")) {
-                return readMean();
-            }
-            if (reader.isWord("join")) {
-                return readJoin();
-            }
-            return reader.tellMisplaced();
         }
 
         private boolean readCode() {
@@ -1363,14 +1356,14 @@ public final class HoleDeck {
                 sound = reader.isWord("end") ? readEnd() : readStep();
             }
             if (sound && depth > 0) {
-                return reader.tellMisplaced();
+                return reader.tell(reader.misplaced());
             }
             return sound;
         }
 
         private boolean readEnd() {
             if (depth <= 0) {
-                return reader.tellMisplaced();
+                return reader.tell(reader.misplaced());
             }
             reader.advance();
             if (!reader.takeSign()) {
@@ -1384,7 +1377,7 @@ public final class HoleDeck {
         private boolean readStep() {
             int kind = kindHere();
             if (kind == NONE) {
-                return reader.tellMisplaced();
+                return reader.tell(reader.misplaced());
             }
             boolean opens = kind == Steps.LOOP || kind == Steps.WHEN;
             if (opens && depth >= DEPTH) {
@@ -1676,6 +1669,7 @@ public final class HoleDeck {
     private static final class Planner {
         private final int[] key = new int[KEY_MOST];
         private int items = 0;
+        private final int[] ranks = new int[CARDS];
         private final int[] columns = new int[KEY_MOST];
         private int different = 0;
         private final int[] trial = new int[KEY_MOST];
@@ -1685,31 +1679,28 @@ public final class HoleDeck {
         private int hands = 0;
         private final int[] row = new int[KEY_MOST];
 
-        private void takeKey(long[] numbers, int many) {
+        /** The items have been asked to be ones; each is less than 16, so that a card's rank holds all of them. */
+        private void takeKey(House house, long[] numbers, int many) {
             items = Math.min(many, KEY_MOST);
             for (int i = 0; i < items; i++) {
                 key[i] = (int) numbers[i];
             }
+            for (int card = 0; card < house.cards; card++) {
+                int rank = 0;
+                for (int i = 0; i < items; i++) {
+                    rank = rank * 16 + taken(house, card, key[i]);
+                }
+                ranks[card] = rank;
+            }
         }
 
-        private boolean inOrder(House house, int[] cards) {
-            for (int i = 1; i < house.cards; i++) {
-                if (isLesser(house, cards[i], cards[i - 1])) {
+        private boolean inOrder(int[] cards, int many) {
+            for (int i = 1; i < many; i++) {
+                if (ranks[cards[i]] < ranks[cards[i - 1]]) {
                     return false;
                 }
             }
             return true;
-        }
-
-        private boolean isLesser(House house, int card, int ahead) {
-            for (int i = 0; i < items; i++) {
-                int mine = taken(house, card, key[i]);
-                int its = taken(house, ahead, key[i]);
-                if (mine != its) {
-                    return mine < its;
-                }
-            }
-            return false;
         }
 
         private static int taken(House house, int card, int item) {
@@ -1802,7 +1793,7 @@ public final class HoleDeck {
             for (int i = 0; i < many; i++) {
                 together += machine.sortRow(house, order, house.cards, trial[i]);
             }
-            return inOrder(house, order) ? together : NONE;
+            return inOrder(order, house.cards) ? together : NONE;
         }
     }
 
