@@ -1091,6 +1091,10 @@ public final class HoleDeck {
             }
         }
 
+        private boolean goesOn() {
+            return fault == 0 && kind != AT_END;
+        }
+
         private static boolean isLetter(int sign) {
             return sign >= 'a' && sign <= 'z';
         }
@@ -1188,79 +1192,82 @@ public final class HoleDeck {
             reader.begin(text, length);
             book.makeEmpty();
             joins = 0;
-            boolean sound = true;
-            for (int part = 0; part < TAPE_MOST && sound && reader.kind != Reader.AT_END; part++) {
+            for (int part = 0; part < TAPE_MOST && reader.goesOn(); part++) {
                 if (reader.isWord("code")) {
-                    sound = readCode();
+                    readCode();
                 } else if (reader.isWord("mean")) {
-                    sound = readMean();
+                    readMean();
                 } else if (reader.isWord("join")) {
-                    sound = readJoin();
+                    readJoin();
                 } else {
-                    sound = reader.tell(reader.misplaced());
+                    reader.tell(reader.misplaced());
                 }
             }
-            return sound;
+            return reader.fault == 0;
         }
 
-        private boolean readCode() {
+        private void readCode() {
             if (book.codes >= CODES) {
-                return reader.tell(6);
+                reader.tell(6);
+                return;
             }
             reader.advance();
             if (!reader.nameStands()) {
-                return false;
+                return;
             }
             long name = reader.nameHere();
             if (find(codeNames, book.codes, name) != NONE) {
-                return reader.tell(3);
+                reader.tell(3);
+                return;
             }
             reader.advance();
             if (!reader.takeWord("year") || !reader.numberStands(0, YEAR_MOST)) {
-                return false;
+                return;
             }
             int year = reader.numberHere();
             reader.advance();
             if (!reader.takeSign()) {
-                return false;
+                return;
             }
             codeNames[book.codes] = name;
             book.addCode(year);
-            return true;
         }
 
-        private boolean readMean() {
+        private void readMean() {
             if (book.codes == 0) {
-                return reader.tell(5);
+                reader.tell(5);
+                return;
             }
             if (book.means >= MEANS) {
-                return reader.tell(6);
+                reader.tell(6);
+                return;
             }
             reader.advance();
             if (!reader.nameStands()) {
-                return false;
+                return;
             }
             long name = reader.nameHere();
             if (find(meanNames, book.means, name) != NONE) {
-                return reader.tell(3);
+                reader.tell(3);
+                return;
             }
             reader.advance();
             if (!reader.takeWord("holes")) {
-                return false;
+                return;
             }
             int holes = readHoles();
             if (holes == NONE) {
-                return false;
+                return;
             }
             if (reader.kind == Reader.SIGN && book.meanWith(book.codes - 1, holes) != NONE) {
-                return reader.tell(7);
+                reader.tell(7);
+                return;
             }
             if (!reader.takeSign()) {
-                return false;
+                return;
             }
             meanNames[book.means] = name;
             book.addMean(holes);
-            return true;
         }
 
         /** NONE if there was a fault: a mean has one hole at least. */
@@ -1291,30 +1298,31 @@ public final class HoleDeck {
             return hole >= 0 && hole < DIGITS ? 1 << hole : 0;
         }
 
-        private boolean readJoin() {
+        private void readJoin() {
             if (joins >= JOINS) {
-                return reader.tell(6);
+                reader.tell(6);
+                return;
             }
             reader.advance();
             int a = readMeanName();
             if (a == NONE) {
-                return false;
+                return;
             }
             reader.advance();
             int b = readMeanName();
             if (b == NONE) {
-                return false;
+                return;
             }
             if (book.joinOf(a, book.codeOf[b]) != NONE) {
-                return reader.tell(5);
+                reader.tell(5);
+                return;
             }
             reader.advance();
             if (!reader.takeSign()) {
-                return false;
+                return;
             }
             book.addJoin(a, b);
             joins++;
-            return true;
         }
 
         private int readMeanName() {
@@ -1351,53 +1359,58 @@ public final class HoleDeck {
             reader.begin(text, length);
             steps.makeEmpty();
             depth = 0;
-            boolean sound = true;
-            for (int i = 0; i < RUN_MOST && sound && reader.kind != Reader.AT_END; i++) {
-                sound = reader.isWord("end") ? readEnd() : readStep();
+            for (int i = 0; i < RUN_MOST && reader.goesOn(); i++) {
+                if (reader.isWord("end")) {
+                    readEnd();
+                } else {
+                    readStep();
+                }
             }
-            if (sound && depth > 0) {
-                return reader.tell(reader.misplaced());
+            if (depth > 0) {
+                reader.tell(reader.misplaced());
             }
-            return sound;
+            return reader.fault == 0;
         }
 
-        private boolean readEnd() {
+        private void readEnd() {
             if (depth <= 0) {
-                return reader.tell(reader.misplaced());
+                reader.tell(reader.misplaced());
+                return;
             }
             reader.advance();
             if (!reader.takeSign()) {
-                return false;
+                return;
             }
             depth--;
             steps.addEnd(openers[depth]);
-            return true;
         }
 
-        private boolean readStep() {
+        private void readStep() {
             int kind = kindHere();
             if (kind == NONE) {
-                return reader.tell(reader.misplaced());
+                reader.tell(reader.misplaced());
+                return;
             }
             boolean opens = kind == Steps.LOOP || kind == Steps.WHEN;
             if (opens && depth >= DEPTH) {
-                return reader.tell(5);
+                reader.tell(5);
+                return;
             }
             if (steps.many >= STEPS) {
-                return reader.tell(6);
+                reader.tell(6);
+                return;
             }
             reader.advance();
             first = 0;
             second = 0;
             if (!readNumbers(kind) || !reader.takeSign()) {
-                return false;
+                return;
             }
             if (opens) {
                 openers[depth] = steps.orders;
                 depth++;
             }
             steps.addStep(kind, first, second);
-            return true;
         }
 
         private int kindHere() {

@@ -65,6 +65,8 @@ public final class BookTest {
         check.taken("names of steps", deck, Check.book(deck, "code pass year 001;mean end holes 012;"), 1);
         check.due("a number with zeros ahead", deck.code(0, 0), 1);
         check.due("hole 12", deck.mean(0, 1), 2048);
+        check.taken("names by their letters' order", deck, Check.book(deck, CODE + "mean az holes 1;mean za holes 2;"), 2);
+        check.taken("as long as they go", deck, Check.book(deck, CODE + "mean b holes 1;mean bb holes 2;"), 2);
         check.taken("eight letters", deck, Check.book(deck, "code abcdefgh year 1;"), 0);
         check.taken("all twelve holes", deck, Check.book(deck, CODE + "mean m holes 0 1 2 3 4 5 6 7 8 9 11 12;"), 1);
         check.due("all holes", deck.mean(0, 1), 4095);
@@ -121,6 +123,14 @@ public final class BookTest {
         check.fault("code a year x;", true, 2, 12);
         check.fault("code a year 1", true, 2, 13);
         check.fault("code a year 1 2;", true, 2, 14);
+        check.fault("code a year", true, 2, 11);
+        check.fault(CODE + "mean", true, 2, 19);
+        check.fault(CODE + "mean b", true, 2, 21);
+        check.fault(CODE + "mean b holes", true, 2, 27);
+        check.fault(CODE + "mean b holes 1;join", true, 2, 34);
+        check.fault(CODE + "mean b holes 1;join b", true, 2, 36);
+        check.fault(CODE + "mean b holes 1;code c year 1;mean d holes 1;join b d", true, 2, 67);
+        check.fault(CODE + "mean b holes 1;code c year 1;mean d holes 1;join b d d", true, 2, 68);
         check.fault(CODE + "mean b 1;", true, 2, 22);
         check.fault(CODE + "mean b holes;", true, 2, 27);
         check.fault(CODE + "mean b holes 1", true, 2, 29);
@@ -200,6 +210,16 @@ public final class BookTest {
             }
         }
         check.taken("twelve joins", deck, Check.book(deck, joins.toString()), 4);
+        check.taken("and twelve again", deck, Check.book(deck, joins.toString()), 4);
+        String far = means + "code b year 2;mean";
+        check.fault(far, true, 6, far.length() - 4);
+        check.taken("the last means of many", deck, Check.book(deck, "code a year 1;mean a holes 1;mean b holes 2;"
+            + "mean c holes 3;mean d holes 4;mean e holes 5;mean f holes 6;mean g holes 7;code b year 2;mean h holes 1;"
+            + "mean i holes 2;join g h;join i f;"), 9);
+        check.due("g in b", deck.joined(6, 1), 7);
+        check.due("i in a", deck.joined(8, 0), 5);
+        check.due("h in a", deck.joined(7, 0), -1);
+        check.due("f in b", deck.joined(5, 1), -1);
         check.fault(joins + "join ?", true, 6, joins.length());
     }
 

@@ -47,6 +47,13 @@ public final class FindsTest {
         check.taken("an empty deck", empty, empty.fewest(7, 0), 0);
         tell(empty, 10);
         check.refused("a card too many", empty, empty.fewest(7, 0), 6);
+        HoleDeck one = Check.deckOf("5");
+        tell(one);
+        check.refused("one card is never double", one, one.fewest(0, 0), 6);
+        tell(one, 4);
+        check.taken("it may be worn", one, one.fewest(0, 0), 1);
+        tell(one, 10);
+        check.taken("it may be off", one, one.fewest(0, 0), 1);
         HoleDeck three = Check.deckOf("5", "5", "5");
         tell(three, 4, 4, 4);
         check.refused("not with two", three, three.fewest(0, 0), 6);
@@ -191,6 +198,8 @@ public final class FindsTest {
         check.refused("none", deck, deck.lost(0, 2, 9, 578, 1), 6);
         check.taken("on two places", deck, deck.lost(0, 2, 2, 78, 0), 10);
         check.taken("the least", deck, deck.lost(0, 2, 2, 78, 1), 99);
+        check.taken("as many as there are numbers: none", deck, deck.lost(0, 2, 9, 579 + 1000, 0), 0);
+        check.taken("one less", deck, deck.lost(0, 2, 9, 579 + 999, 0), 1);
         check.taken("just the sum", deck, deck.lost(0, 2, 2, 79, 1), 0);
         check.taken("on three places", deck, deck.lost(0, 2, 3, 578, 1), 999);
         check.taken("the greatest told", deck, deck.lost(0, 2, 9, 999999999, 0), 0);

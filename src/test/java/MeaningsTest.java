@@ -14,6 +14,7 @@ public final class MeaningsTest {
         habit();
         marks();
         backTakesAll();
+        backOfManyCards();
         backLeavesTheRest();
         check.end();
     }
@@ -217,6 +218,27 @@ public final class MeaningsTest {
         check.due("the run", deck.run(), 2);
         check.taken("a new card's number", deck, Check.punch(deck, "5"), 2);
         check.due("in no ink", deck.card(2, 17), -1);
+    }
+
+    private static void backOfManyCards() {
+        HoleDeck deck = new HoleDeck();
+        for (int i = 0; i < 30; i++) {
+            Check.punch(deck, "" + i % 10 + i / 10, i % 2, i % 3 - 1);
+        }
+        deck.mark();
+        for (int i = 0; i < 30; i++) {
+            deck.holes(i, 0, 0);
+            deck.holes(i, 7, 4095);
+        }
+        deck.pass(1, false);
+        deck.run();
+        deck.back();
+        for (int i = 0; i < 30; i++) {
+            check.due("what it reads", deck.field(i, 0, 1), i % 10 * 10 + i / 10);
+            check.due("its last holes", deck.card(i, 7), 0);
+            check.due("its place", deck.lies(i), i);
+            check.due("its wear", deck.card(i, 18), 0);
+        }
     }
 
     private static void backLeavesTheRest() {

@@ -187,6 +187,9 @@ public final class PassesTest {
         HoleDeck deck = Check.deckOf("112", "120", "2 9", " x5", "1x7", "x11");
         check.taken("how many read 1", deck, deck.pocket(0, 1, 1, 2, 0), 3);
         check.taken("their sum, one is none", deck, deck.pocket(0, 1, 1, 2, 1), 32);
+        check.taken("none reads 0", deck, deck.pocket(0, 0, 1, 2, 0), 0);
+        check.taken("one reads 0", deck, deck.pocket(2, 0, 1, 2, 0), 1);
+        check.taken("the sum of it", deck, deck.pocket(2, 0, 1, 2, 1), 20);
         check.taken("blank", deck, deck.pocket(0, 10, 2, 2, 0), 1);
         check.taken("sum of the blank", deck, deck.pocket(0, 10, 2, 2, 1), 5);
         check.taken("wrong", deck, deck.pocket(1, 11, 2, 2, 0), 2);

@@ -167,7 +167,12 @@ public final class RunsTest {
         check.lies("first run", deck, "1 0 2");
         check.taken("second run", deck, deck.run(), 5);
         check.lies("second run", deck, "0 2 1");
+        HoleDeck one = Check.deckOf("5");
+        Check.program(one, "when 0 5;turn;end;");
+        check.taken("one card alone", one, one.run(), 2);
         HoleDeck empty = new HoleDeck();
+        Check.program(empty, "when 0 0;turn;end;");
+        check.taken("no card reads 0", empty, empty.run(), 1);
         Check.program(empty, "when 0 10;turn;end;cut 1;turn;pass 0;put 0 0;");
         check.taken("no card", empty, empty.run(), 5);
     }
