@@ -15,13 +15,26 @@ public final class AnyCallsTest {
 
     public static void main(String[] args) {
         for (int seed = 0; seed < 600; seed++) {
-            new AnyCallsTest(seed).calls();
+            AnyCallsTest test = new AnyCallsTest(seed);
+            // a full deck, so that the last card of all is reached too
+            for (int card = 0; card < 30 && seed % 3 == 0; card++) {
+                Check.punch(test.deck, test.anyCard(), test.random.nextInt(2), test.random.nextInt(3) - 1);
+            }
+            test.calls();
         }
         check.end();
     }
 
     private AnyCallsTest(int seed) {
         random = new Random(seed);
+    }
+
+    private String anyCard() {
+        StringBuilder text = new StringBuilder();
+        for (int column = 0; column < 8; column++) {
+            text.append("0123456789 x".charAt(random.nextInt(12)));
+        }
+        return text.toString();
     }
 
     private int any() {

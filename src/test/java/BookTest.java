@@ -10,6 +10,7 @@ public final class BookTest {
         oldBookStays();
         faultIsOfTheLatest();
         tokens();
+        cutTexts();
         misplaced();
         names();
         numbers();
@@ -106,6 +107,37 @@ public final class BookTest {
         check.fault("code a year 1;\u0000", true, 1, 14);
         check.fault("code a year 1;\u00e9", true, 1, 14);
         check.fault("code a year 1:", true, 1, 13);
+    }
+
+    /** What stands on the tape behind the first n bytes is not of the text, and a full tape has nothing behind it. */
+    private static void cutTexts() {
+        HoleDeck deck = new HoleDeck();
+        Check.feed(deck, "code a year 600;");
+        check.refused("a number cut", deck, deck.book(14), 9);
+        check.due("fault", deck.fault(0), 2);
+        check.due("place", deck.fault(1), 14);
+        Check.feed(deck, "code abcdefghi year 1;");
+        check.refused("a word cut", deck, deck.book(13), 9);
+        check.due("place", deck.fault(1), 13);
+        Check.feed(deck, "codex");
+        check.refused("a word cut", deck, deck.book(4), 9);
+        check.due("place", deck.fault(1), 4);
+        Check.feed(deck, CODE + "   code");
+        check.taken("blanks cut", deck, deck.book(17), 0);
+        for (char last : new char[] {' ', 'a', '1', ';'}) {
+            StringBuilder full = new StringBuilder();
+            for (int i = 0; i < 500; i++) {
+                full.append(i < 490 ? ' ' : last);
+            }
+            int got = Check.book(deck, full.toString());
+            check.due("a full tape", got, last == ' ' ? 0 : -1);
+            check.due("its place", deck.fault(1), last == ' ' ? -1 : 490);
+        }
+        StringBuilder full = new StringBuilder(CODE);
+        for (int i = full.length(); i < 494; i++) {
+            full.append(' ');
+        }
+        check.fault(deck, full + "code b", true, 2, 500);
     }
 
     private static void misplaced() {

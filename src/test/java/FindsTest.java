@@ -6,6 +6,7 @@ public final class FindsTest {
         fewest();
         kinds();
         twoMisreads();
+        thirtyCards();
         misread();
         parts();
         parted();
@@ -118,6 +119,29 @@ public final class FindsTest {
         check.due("its kind", deck.misread(2), 2);
         check.due("second card", deck.misread(3), 1);
         check.due("its kind", deck.misread(4), 0);
+    }
+
+    private static void thirtyCards() {
+        HoleDeck deck = new HoleDeck();
+        int[] reads = new int[30];
+        for (int i = 0; i < 30; i++) {
+            Check.punch(deck, "5");
+            reads[i] = 5;
+        }
+        tell(deck, reads);
+        check.taken("as they read", deck, deck.fewest(0, 0), 0);
+        reads[3] = 4;
+        reads[4] = 10;
+        tell(deck, reads);
+        check.taken("one worn, one off", deck, deck.fewest(0, 0), 2);
+        check.due("any of them", deck.misread(0), 30 * 29);
+        check.due("first kind", deck.misread(2), 0);
+        check.due("second card", deck.misread(3), 1);
+        check.due("second kind", deck.misread(4), 1);
+        reads[5] = 3;
+        tell(deck, reads);
+        check.refused("not with two", deck, deck.fewest(0, 0), 6);
+        check.due("the last one stays", deck.misread(0), 870);
     }
 
     private static void misread() {
