@@ -23,7 +23,9 @@ public final class OracleTest {
         Random random = new Random(12);
         for (int round = 0; round < 400; round++) {
             OracleTest oracle = new OracleTest(random, 1 + random.nextInt(7), 2 + random.nextInt(9));
-            oracle.testPlan(random);
+            for (int plan = 0; plan < 4; plan++) {
+                oracle.testPlan(random);
+            }
             oracle.testFewest(random);
             oracle.testParts(random);
             oracle.testMatched(random);
