@@ -79,11 +79,16 @@ final class Check {
 
     /** Digits, ' ' for a blank column, 'x' for a wrong one; columns that are not told are blank. */
     static int punch(HoleDeck deck, String reads, int clerk, int ink) {
-        deck.tray(3, 1, 8);
+        return punchBy(deck, 3, reads, clerk, ink);
+    }
+
+    /** By a tray of choice, which is of 16 bits then. */
+    static int punchBy(HoleDeck deck, int tray, String reads, int clerk, int ink) {
+        deck.tray(tray, 1, 8);
         for (int column = 0; column < 8; column++) {
-            deck.write(3, column, holes(column < reads.length() ? reads.charAt(column) : ' '));
+            deck.write(tray, column, holes(column < reads.length() ? reads.charAt(column) : ' '));
         }
-        return deck.punch(3, clerk, ink);
+        return deck.punch(tray, clerk, ink);
     }
 
     static int punch(HoleDeck deck, String reads) {
