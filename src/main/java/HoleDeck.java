@@ -1115,10 +1115,6 @@ public final class HoleDeck {
             return true;
         }
 
-        private boolean isKeyword() {
-            return isWord("code") || isWord("year") || isWord("mean") || isWord("holes") || isWord("join");
-        }
-
         /** Eight letters of five bits each fit into a long, so names are compared as numbers. */
         private long nameHere() {
             long name = 0;
@@ -1151,7 +1147,8 @@ public final class HoleDeck {
         }
 
         private boolean nameStands() {
-            boolean stands = kind == WORD && end - start <= NAME_MOST && !isKeyword();
+            boolean kept = isWord("code") || isWord("year") || isWord("mean") || isWord("holes") || isWord("join");
+            boolean stands = kind == WORD && end - start <= NAME_MOST && !kept;
             return stands || tell(misplaced());
         }
 

@@ -102,6 +102,31 @@ final class Check {
         return sign == 'x' ? 3 : 1 << (sign - '0');
     }
 
+    /** Holes that read so: 0 to 9, 10 for a blank column, 11 for a wrong one. */
+    static int holesThatRead(int reads) {
+        return reads < 10 ? 1 << reads : reads == 10 ? 0 : 1024;
+    }
+
+    /** Cards by what their first column reads, and by their ink, '-' for none. */
+    static HoleDeck inked(String reads, String inks) {
+        HoleDeck deck = new HoleDeck();
+        for (int card = 0; card < reads.length(); card++) {
+            char ink = inks.charAt(card);
+            punch(deck, "" + reads.charAt(card), 0, ink == '-' ? -1 : ink - '0');
+        }
+        return deck;
+    }
+
+    /** What a column tells if its cards read so: twelve counts and the sum. */
+    static long[] tellings(int... reads) {
+        long[] numbers = new long[13];
+        for (int read : reads) {
+            numbers[read]++;
+            numbers[12] += read < 10 ? read : 0;
+        }
+        return numbers;
+    }
+
     static HoleDeck deckOf(String... cards) {
         HoleDeck deck = new HoleDeck();
         for (String card : cards) {

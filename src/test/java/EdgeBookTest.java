@@ -48,14 +48,6 @@ public final class EdgeBookTest {
         check.end();
     }
 
-    private static String repeat(String text, int times) {
-        StringBuilder all = new StringBuilder();
-        for (int i = 0; i < times; i++) {
-            all.append(text);
-        }
-        return all.toString();
-    }
-
     private static HoleDeck taken(String text, int means) {
         HoleDeck deck = new HoleDeck();
         check.taken("\"" + text + "\"", deck, Check.book(deck, text), means);
@@ -137,7 +129,7 @@ public final class EdgeBookTest {
     private static void emptiesTheTape() {
         for (int n : new int[] {0, 1, 40}) {
             HoleDeck deck = new HoleDeck();
-            Check.feed(deck, repeat(" ", 40));
+            Check.feed(deck, " ".repeat(40));
             check.taken("book of " + n, deck, deck.book(n), 0);
             check.refused("nothing is left", deck, deck.book(1), 1);
             check.taken("but 0 bytes", deck, deck.book(0), 0);
@@ -149,7 +141,7 @@ public final class EdgeBookTest {
     private static void refusedBook() {
         twins.span("book of", Twins::rich, 0, 40, (deck, n) -> deck.book(n));
         HoleDeck deck = new HoleDeck();
-        Check.feed(deck, repeat(" ", 500));
+        Check.feed(deck, " ".repeat(500));
         check.refused("501 of 500", deck, deck.book(501), 1);
         check.taken("500 of 500", deck, deck.book(500), 0);
         check.refused("1 ahead of 9", deck, deck.book(1), 1);
@@ -282,7 +274,7 @@ public final class EdgeBookTest {
         taken("code a year 1;mean b holes 1;", 1);
         taken("\n\n code\na\n \nyear\n1\n;\n mean  b  holes  1  ; \n", 1);
         taken("code a year1;mean b holes1;", 1);
-        taken(repeat(" ", 480) + "code a year 1;      ", 0);
+        taken(" ".repeat(480) + "code a year 1;      ", 0);
         fault("codea year 1;", 2, 0);
         fault("code ayear 1;", 2, 11);
         fault(CODE + "mean b holes 1 2 3 4 5 6 7 8 9 0 11 12 \t;", 1, 54);
@@ -332,7 +324,7 @@ public final class EdgeBookTest {
         taken("", 0);
         taken(" ", 0);
         taken("\n", 0);
-        taken(repeat("\n ", 250), 0);
+        taken("\n ".repeat(250), 0);
         HoleDeck deck = taken(CODE, 0);
         check.taken("a CODE without a MEAN", deck, deck.code(0, 2), 0);
         deck = taken("code a year 1;code b year 1;mean m holes 1;", 1);
@@ -348,7 +340,7 @@ public final class EdgeBookTest {
             + "join zzzzzzzz zzzzzzza;", 2);
         check.taken("eight letters joined", deck, deck.joined(0, 1), 1);
         fault("code abcdefghi year 1;", 2, 5);
-        fault("code " + repeat("a", 100) + " year 1;", 2, 5);
+        fault("code " + "a".repeat(100) + " year 1;", 2, 5);
         fault(CODE + "mean abcdefghi holes 1;", 2, 20);
         fault(CODE + "mean abcdefgh holes 1;join abcdefghi x;", 2, 42);
         fault(CODE + "mean abcdefgh holes 1;join abcdefgh abcdefghi;", 2, 51);
@@ -438,8 +430,8 @@ public final class EdgeBookTest {
             check.due("cut at " + n + ", place", deck.fault(1), wordCut ? last : n);
         }
         fault("code   \n  ", 2, 10);
-        fault("code a year 1" + repeat(" ", 487), 2, 500);
-        fault(repeat(" ", 496) + "code", 2, 500);
+        fault("code a year 1" + " ".repeat(487), 2, 500);
+        fault(" ".repeat(496) + "code", 2, 500);
     }
 
     /** "2 it can't stand there": each kind of TOKEN where each other kind must stand. */

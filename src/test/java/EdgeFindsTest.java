@@ -41,12 +41,7 @@ public final class EdgeFindsTest {
 
     /** Twelve counts of the told readings, and their sum, in TRAY 0. */
     private static void tell(HoleDeck deck, int... reads) {
-        long[] numbers = new long[13];
-        for (int read : reads) {
-            numbers[read]++;
-            numbers[12] += read < 10 ? read : 0;
-        }
-        Check.fill(deck, 0, 3, numbers);
+        Check.fill(deck, 0, 3, Check.tellings(reads));
     }
 
     private static HoleDeck told(String[] cards, int... reads) {
@@ -142,7 +137,7 @@ public final class EdgeFindsTest {
             for (int reads : new int[] {0, 7, 9, 10, 11}) {
                 HoleDeck deck = Check.deckOf("");
                 deck.holes(0, column, 16);
-                deck.holes(0, column + 1, reads < 10 ? 1 << reads : reads == 10 ? 0 : 3);
+                deck.holes(0, column + 1, Check.holesThatRead(reads));
                 tell(deck, reads);
                 one("COLUMN " + column + " off to " + reads, deck, column, 0, 1);
             }
@@ -371,17 +366,8 @@ public final class EdgeFindsTest {
 
     // ---- PARTED
 
-    private static HoleDeck inked(String reads, String inks) {
-        HoleDeck deck = new HoleDeck();
-        for (int card = 0; card < reads.length(); card++) {
-            char ink = inks.charAt(card);
-            Check.punch(deck, "" + reads.charAt(card), 0, ink == '-' ? -1 : ink - '0');
-        }
-        return deck;
-    }
-
     private static HoleDeck ways(String reads, String inks, int want) {
-        HoleDeck deck = inked(reads, inks);
+        HoleDeck deck = Check.inked(reads, inks);
         check.taken("ways of " + reads + " in " + inks, deck, deck.parts(0, 0), want);
         return deck;
     }
@@ -417,7 +403,7 @@ public final class EdgeFindsTest {
         ways("321", "---", 0);
         ways("212", "---", 2);
         ways("123", "---", 8);
-        HoleDeck deck = inked("21", "00");
+        HoleDeck deck = Check.inked("21", "00");
         check.taken("as they lie", deck, deck.parts(0, 0), 0);
         deck.exchange(0, 1);
         check.taken("exchanged they rise", deck, deck.parts(0, 0), 1);
@@ -483,7 +469,7 @@ public final class EdgeFindsTest {
         parted(ways("21", "1-", 1), "10");
         parted(ways("213", "0--", 2), "012");
         parted(ways("2133", "0---", 2), "0122");
-        HoleDeck deck = inked("12", "0-");
+        HoleDeck deck = Check.inked("12", "0-");
         deck.exchange(0, 1);
         check.taken("by the DECK as it lies", deck, deck.parts(0, 0), 1);
         parted(deck, "01");

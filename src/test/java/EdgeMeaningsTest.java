@@ -515,11 +515,13 @@ public final class EdgeMeaningsTest {
         }
         deck.pass(0, false);
         deck.mark();
+        int first = deck.lies(0);
         int last = deck.lies(29);
         for (int card = 0; card < 30; card++) {
             deck.holes(card, 0, 0);
         }
         deck.pass(0, false);
+        deck.exchange(first, last);
         check.taken("to thirty", deck, deck.back(), 1);
         for (int card = 0; card < 30; card++) {
             check.due("HOLES of CARD " + card, deck.card(card, 0), card);
@@ -527,6 +529,7 @@ public final class EdgeMeaningsTest {
             check.due("its INK", deck.card(card, 17), card % 3 - 1);
             check.due("its WEAR", deck.card(card, 18), 1);
         }
+        check.due("the first one", deck.lies(0), first);
         check.due("the last one", deck.lies(29), last);
         check.refused("a 31st", deck, deck.punch(0, 0, 0), 4);
         check.taken("to none", deck, deck.back(), 0);

@@ -56,7 +56,7 @@ public final class EdgePassesTest {
         deck.tray(0, 1, 8);
         for (int card = 0; card < 12; card++) {
             int reads = 11 - card;
-            deck.write(0, column, reads < 10 ? 1 << reads : reads == 10 ? 0 : 1024);
+            deck.write(0, column, Check.holesThatRead(reads));
             deck.punch(0, 0, -1);
         }
         return deck;
@@ -195,7 +195,7 @@ public final class EdgePassesTest {
         HoleDeck deck = new HoleDeck();
         deck.tray(0, 1, 8);
         for (int card = 0; card < 30; card++) {
-            deck.write(0, 0, card % 12 < 10 ? 1 << card % 12 : card % 12 == 10 ? 0 : 3);
+            deck.write(0, 0, Check.holesThatRead(card % 12));
             deck.punch(0, 0, -1);
         }
         Check.program(deck, "loop 9;loop 9;loop 9;pass 0;end;end;end;");
@@ -296,8 +296,8 @@ public final class EdgePassesTest {
     private static void pair(int item, int a, int b, boolean want) {
         HoleDeck deck = Check.deckOf("", "");
         int column = item % 8;
-        deck.holes(0, column, a < 10 ? 1 << a : a == 10 ? 0 : 1024);
-        deck.holes(1, column, b < 10 ? 1 << b : b == 10 ? 0 : 1024);
+        deck.holes(0, column, Check.holesThatRead(a));
+        deck.holes(1, column, Check.holesThatRead(b));
         Check.fill(deck, 0, 0, item);
         check.taken(a + " ahead of " + b + " by ITEM " + item, deck, deck.ordered(0, 1), want ? 1 : 0);
     }
@@ -344,6 +344,7 @@ public final class EdgePassesTest {
         }
         Check.fill(last, 0, 0, 0);
         check.taken("the last of thirty is the lesser", last, last.ordered(0, 1), 0);
+        check.taken("and needs a PASS", last, last.plan(0, 1), 1);
     }
 
     /** "lesser ITEMS (the first that differ)"; "the first the most". */
@@ -654,17 +655,8 @@ public final class EdgePassesTest {
 
     // ---- COLLATED, MATCHED
 
-    private static HoleDeck inked(String reads, String inks) {
-        HoleDeck deck = new HoleDeck();
-        for (int card = 0; card < reads.length(); card++) {
-            char ink = inks.charAt(card);
-            Check.punch(deck, "" + reads.charAt(card), 0, ink == '-' ? -1 : ink - '0');
-        }
-        return deck;
-    }
-
     private static void collated(String reads, String inks, int behind, String want) {
-        HoleDeck deck = inked(reads, inks);
+        HoleDeck deck = Check.inked(reads, inks);
         check.taken("collate " + reads + " in " + inks, deck, deck.collate(0, 0), behind);
         check.lies("collate " + reads + " in " + inks, deck, want);
         check.taken("no HOURS", deck, deck.many(3), 0);
@@ -733,7 +725,7 @@ public final class EdgePassesTest {
     }
 
     private static void matched(String reads, String inks, int both, int zero, int one) {
-        HoleDeck deck = inked(reads, inks);
+        HoleDeck deck = Check.inked(reads, inks);
         check.taken("both of " + reads, deck, deck.matched(0, 0, 0), both);
         check.taken("INK 0 of " + reads, deck, deck.matched(0, 0, 1), zero);
         check.taken("INK 1 of " + reads, deck, deck.matched(0, 0, 2), one);

@@ -55,14 +55,6 @@ public final class EdgeRunsTest {
         return deck;
     }
 
-    private static String repeat(String text, int times) {
-        StringBuilder all = new StringBuilder();
-        for (int i = 0; i < times; i++) {
-            all.append(text);
-        }
-        return all.toString();
-    }
-
     // ---- the text
 
     /** program(): "(1: n below 0, or more than the tape has". */
@@ -70,7 +62,7 @@ public final class EdgeRunsTest {
         Twins.Make make = deck -> {
             Twins.rich(deck);
             deck.book(0);
-            Check.feed(deck, repeat("turn;", 8));
+            Check.feed(deck, "turn;".repeat(8));
         };
         twins.span("program of", make, 0, 40, (deck, n) -> deck.program(n));
         for (int n : new int[] {-1, 41, LEAST, MOST}) {
@@ -91,20 +83,20 @@ public final class EdgeRunsTest {
     private static void threeHundredBytes() {
         for (int n = 299; n <= 301; n++) {
             HoleDeck deck = new HoleDeck();
-            Check.feed(deck, repeat(" ", 295) + "turn;" + repeat(" ", 100));
+            Check.feed(deck, " ".repeat(295) + "turn;" + " ".repeat(100));
             check.due("the first " + n, deck.program(n), n > 300 ? -1 : n == 300 ? 1 : -1);
             check.due("the first " + n + ", STATUS", deck.status(), n > 300 ? 1 : n == 300 ? 0 : 9);
         }
         Twins.Make make = deck -> {
             Twins.rich(deck);
             deck.book(0);
-            Check.feed(deck, repeat(" ", 500));
+            Check.feed(deck, " ".repeat(500));
         };
         twins.refused("301 of 500", make, deck -> deck.program(301), 1);
         twins.refused("500 of 500", make, deck -> deck.program(500), 1);
         twins.refused("501 of 500", make, deck -> deck.program(501), 1);
         HoleDeck deck = new HoleDeck();
-        Check.feed(deck, repeat("?", 400));
+        Check.feed(deck, "?".repeat(400));
         check.refused("1 ahead of 9", deck, deck.program(301), 1);
         check.due("no FAULT was told", deck.fault(0), -1);
         check.taken("a BOOK may be longer", deck, bookOfBlanks(deck), 0);
@@ -112,7 +104,7 @@ public final class EdgeRunsTest {
 
     private static int bookOfBlanks(HoleDeck deck) {
         deck.book(0);
-        Check.feed(deck, repeat(" ", 400));
+        Check.feed(deck, " ".repeat(400));
         return deck.book(400);
     }
 
@@ -288,7 +280,7 @@ public final class EdgeRunsTest {
             check.due("cut at " + n + ", FAULT", deck.fault(0), whole ? 0 : 2);
             check.due("cut at " + n + ", place", deck.fault(1), whole ? -1 : wordCut ? last : n);
         }
-        fault("turn" + repeat(" ", 296), 2, 300);
+        fault("turn" + " ".repeat(296), 2, 300);
     }
 
     /** "1 and 2 as of a BOOK": each of the 256 bytes at the text's beginning. */
@@ -346,7 +338,7 @@ public final class EdgeRunsTest {
 
     /** "6 a 41st STEP (at its WORD; end is none)". */
     private static void fortySteps() {
-        String forty = repeat("turn;", 40);
+        String forty = "turn;".repeat(40);
         taken(forty, 40);
         for (String word : new String[] {"pass", "put", "cut", "turn", "add", "loop", "when"}) {
             fault(forty + word, 6, 200);
@@ -355,18 +347,18 @@ public final class EdgeRunsTest {
         fault(forty + "end;", 2, 200);
         fault(forty + "stops;", 2, 200);
         fault(forty + "?", 1, 200);
-        taken("loop 1;" + repeat("turn;", 39) + "end;", 40);
-        fault("loop 1;" + repeat("turn;", 39) + "end;turn;", 6, 206);
-        fault("loop 1;" + repeat("turn;", 39) + "turn;end;", 6, 202);
-        taken(repeat("loop1;", 3) + repeat("turn;", 37) + repeat("end;", 3), 40);
-        String loops = repeat("loop1;end;", 29);
+        taken("loop 1;" + "turn;".repeat(39) + "end;", 40);
+        fault("loop 1;" + "turn;".repeat(39) + "end;turn;", 6, 206);
+        fault("loop 1;" + "turn;".repeat(39) + "turn;end;", 6, 202);
+        taken("loop1;".repeat(3) + "turn;".repeat(37) + "end;".repeat(3), 40);
+        String loops = "loop1;end;".repeat(29);
         HoleDeck deck = taken(loops + "turn;", 30);
         check.taken("all are done", deck, deck.run(), 30);
     }
 
     /** "(of one TOKEN the least kind)": 5 ahead of 6, 1 ahead of 4, 2 ahead of 6. */
     private static void leastKind() {
-        String full = "loop 1;loop 1;loop 1;" + repeat("turn;", 37);
+        String full = "loop 1;loop 1;loop 1;" + "turn;".repeat(37);
         fault(full + "loop 1;", 5, full.length());
         fault(full + "when 0 0;", 5, full.length());
         fault(full + "turn;", 6, full.length());
@@ -567,9 +559,9 @@ public final class EdgeRunsTest {
         done("turn;loop 9;loop 7;turn;turn;turn;end;end;", 200, 0);
         done("turn;turn;loop 9;loop 7;turn;turn;turn;end;end;", 200, 1);
         // the 200th STEP is the last of a round that is not the last: 1 + 8 * 25 - 1
-        done("loop 9;" + repeat("turn;", 25) + "end;", 200, 1);
-        done("loop 8;" + repeat("turn;", 25) + "end;", 200, 1);
-        done("loop 7;" + repeat("turn;", 28) + "end;turn;turn;turn;", 200, 0);
+        done("loop 9;" + "turn;".repeat(25) + "end;", 200, 1);
+        done("loop 8;" + "turn;".repeat(25) + "end;", 200, 1);
+        done("loop 7;" + "turn;".repeat(28) + "end;turn;turn;turn;", 200, 0);
         HoleDeck deck = new HoleDeck();
         Check.program(deck, ALL_BUT_ONE + "turn;turn;");
         deck.run();

@@ -16,13 +16,7 @@ public final class FindsTest {
 
     /** Twelve counts of the told readings, and their sum, in tray 0. */
     private static void tell(HoleDeck deck, int... reads) {
-        deck.tray(0, 3, 13);
-        int sum = 0;
-        for (int read : reads) {
-            deck.write(0, read, deck.read(0, read) + 1);
-            sum += read < 10 ? read : 0;
-        }
-        deck.write(0, 12, sum);
+        Check.fill(deck, 0, 3, Check.tellings(reads));
     }
 
     private static void fewest() {

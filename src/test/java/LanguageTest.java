@@ -115,6 +115,17 @@ public final class LanguageTest {
             }
         }
         shortMethods(text);
+        madeOnce(bare);
+    }
+
+    /** Rule 12, kept more narrowly: all rows are made with the object, none by a call. */
+    private static void madeOnce(String bare) {
+        boolean inConstructor = false;
+        for (String line : bare.split("\n")) {
+            inConstructor = inConstructor ? !line.equals("    }") : line.startsWith("    public HoleDeck()");
+            boolean ofAField = line.matches(" +private (final )?[\\w\\[\\]]+ \\w+ = new .*;");
+            yes("made once: " + line, !line.contains("new ") || ofAField || inConstructor);
+        }
     }
 
     private static void shortMethods(String text) {
