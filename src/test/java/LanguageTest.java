@@ -1,3 +1,4 @@
+import java.lang.reflect.Array;
 import java.lang.reflect.Constructor;
 import java.lang.reflect.Field;
 import java.lang.reflect.Method;
@@ -6,12 +7,13 @@ import java.nio.charset.StandardCharsets;
 import java.nio.file.Files;
 import java.nio.file.Path;
 import java.util.ArrayList;
+import java.util.IdentityHashMap;
 import java.util.List;
 import java.util.TreeSet;
 import java.util.regex.Matcher;
 import java.util.regex.Pattern;
 
-/** The face of the document, and those rules of LANGUAGE.md that can be seen from outside. */
+/** The face of the document, those rules of LANGUAGE.md that can be seen from outside, and the room of an object. */
 public final class LanguageTest {
     private static final Check check = new Check();
     private static final Path SOURCE = Path.of("src/main/java/HoleDeck.java");
@@ -34,6 +36,7 @@ public final class LanguageTest {
         face();
         classes();
         source();
+        room();
         check.end();
     }
 
@@ -116,6 +119,42 @@ public final class LanguageTest {
         }
         shortMethods(text);
         madeOnce(bare);
+    }
+
+    /** Had each call of an object's 512 its own object beside it, all of them would still fit into the one room. */
+    private static void room() throws Exception {
+        IdentityHashMap<Object, Object> met = new IdentityHashMap<>();
+        List<Object> waiting = new ArrayList<>(List.of(new HoleDeck()));
+        long elements = 0;
+        while (!waiting.isEmpty()) {
+            Object one = waiting.remove(waiting.size() - 1);
+            if (met.put(one, one) == null) {
+                elements += one.getClass().isArray() ? parts(one, waiting) : fields(one, waiting);
+            }
+        }
+        yes("objects: " + met.size(), met.size() * 512L < 600_000);
+        yes("fields and elements: " + elements, elements * 512 < 7_300_000);
+    }
+
+    private static int parts(Object array, List<Object> waiting) {
+        if (array instanceof Object[] row) {
+            waiting.addAll(List.of(row));
+        }
+        return Array.getLength(array);
+    }
+
+    private static int fields(Object one, List<Object> waiting) throws Exception {
+        int found = 0;
+        for (Field field : one.getClass().getDeclaredFields()) {
+            if (!Modifier.isStatic(field.getModifiers())) {
+                found++;
+                field.setAccessible(true);
+                if (!field.getType().isPrimitive()) {
+                    waiting.add(field.get(one));
+                }
+            }
+        }
+        return found;
     }
 
     /** Rule 12, kept more narrowly: all rows are made with the object, none by a call. */
